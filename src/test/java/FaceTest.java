@@ -19,8 +19,7 @@ public final class FaceTest {
     public static void main(String[] args) {
         Checks checks = new Checks();
         Class<?> yard = ForwardYard.class;
-        int modifiers = yard.getModifiers();
-        checks.due("public and final", Modifier.isPublic(modifiers) && Modifier.isFinal(modifiers), true);
+        checks.due("class", Modifier.toString(yard.getModifiers()), "public final");
         checks.due("methods", shownMethods(yard), new TreeSet<>(java.util.List.of(FACE)));
         for (Field field : yard.getDeclaredFields()) {
             checks.due(field + " is private", Modifier.isPrivate(field.getModifiers()), true);

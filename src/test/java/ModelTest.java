@@ -1,5 +1,3 @@
-import java.lang.reflect.InvocationTargetException;
-import java.lang.reflect.Method;
 import java.util.Arrays;
 import java.util.HashMap;
 import java.util.Map;
@@ -25,7 +23,7 @@ public final class ModelTest {
     private final Checks checks = new Checks();
     private final Map<String, Integer> outcomes = new HashMap<>();
 
-    public static void main(String[] args) throws ReflectiveOperationException {
+    public static void main(String[] args) {
         ModelTest test = new ModelTest();
         for (int run = 0; run < RUNS; run++) {
             test.mixedRun(run);
@@ -35,21 +33,19 @@ public final class ModelTest {
         test.checks.finish();
     }
 
-    private void mixedRun(int run) throws ReflectiveOperationException {
+    private void mixedRun(int run) {
         Random random = new Random(run);
         int[] often = OFTEN[run % OFTEN.length];
         int wrongOneIn = run % 3 == 0 ? 10 : 60;
         ForwardYard yard = new ForwardYard();
         PlainYard plain = new PlainYard();
         for (int i = 0; i < CALLS_OF_A_RUN; i++) {
-            String[] call = choose(random, often);
-            Object[] arguments = arguments(random, call[1], wrongOneIn);
-            Object want = answer(plain, call[0], arguments);
-            Object got = answer(yard, call[0], arguments);
-            String told = "run " + run + ", call " + i + ": " + call[0] + Arrays.toString(arguments);
-            checks.due(told, got, want);
-            String kind = String.valueOf(want).startsWith("throws.") ? want.toString() : "answers";
-            outcomes.merge(call[0] + " " + kind, 1, Integer::sum);
+            Call call = choose(random, often, wrongOneIn);
+            Object want = call.answerOf(plain);
+            Object got = call.answerOf(yard);
+            checks.due("run " + run + ", call " + i + ": " + call.told(), got, want);
+            String kind = Call.threw(want) ? want.toString() : "answers";
+            outcomes.merge(call.name() + " " + kind, 1, Integer::sum);
         }
     }
 
@@ -73,29 +69,30 @@ public final class ModelTest {
     }
 
     /** What calls answer after the 512th is free, but the language's rule 7 holds there too. */
-    private void nothingElseIsThrownLater() throws ReflectiveOperationException {
+    private void nothingElseIsThrownLater() {
         Random random = new Random(-1);
         ForwardYard yard = new ForwardYard();
         for (int i = 0; i < 200_000; i++) {
-            String[] call = choose(random, OFTEN[i / 1000 % OFTEN.length]);
-            String got = String.valueOf(answer(yard, call[0], arguments(random, call[1], 20)));
-            boolean fits = !got.startsWith("throws.") || outcomes.containsKey(call[0] + " " + got);
-            checks.due("late call " + i + ": " + call[0] + " " + got + " fits the face", fits, true);
+            Call call = choose(random, OFTEN[i / 1000 % OFTEN.length], 20);
+            Object got = call.answerOf(yard);
+            boolean fits = !Call.threw(got) || outcomes.containsKey(call.name() + " " + got);
+            Object want = fits ? got : "no such exception";
+            checks.due("late call " + i + ": " + call.told(), got, want);
         }
     }
 
-    private static String[] choose(Random random, int[] often) {
+    private static Call choose(Random random, int[] often, int wrongOneIn) {
         int left = random.nextInt(Arrays.stream(often).sum());
         int i = 0;
         while (left >= often[i]) {
             left -= often[i];
             i++;
         }
-        return CALLS[i];
+        return new Call(CALLS[i][0], arguments(random, CALLS[i][1], wrongOneIn));
     }
 
-    private static Object[] arguments(Random random, String kinds, int wrongOneIn) {
-        Object[] arguments = new Object[kinds.length()];
+    private static int[] arguments(Random random, String kinds, int wrongOneIn) {
+        int[] arguments = new int[kinds.length()];
         for (int i = 0; i < arguments.length; i++) {
             arguments[i] = argument(random, kinds.charAt(i), random.nextInt(wrongOneIn) == 0);
         }
@@ -122,17 +119,5 @@ public final class ModelTest {
 
     private static int awry(Random random, int bound) {
         return random.nextBoolean() ? bound : AWRY[random.nextInt(AWRY.length)];
-    }
-
-    private static Object answer(Object yard, String name, Object[] arguments)
-            throws ReflectiveOperationException {
-        Class<?>[] types = new Class<?>[arguments.length];
-        Arrays.fill(types, int.class);
-        Method method = yard.getClass().getMethod(name, types);
-        try {
-            return method.invoke(yard, arguments);
-        } catch (InvocationTargetException e) {
-            return "throws." + e.getCause().getClass().getSimpleName();
-        }
     }
 }
