@@ -17,7 +17,7 @@ public final class ForwardYard {
     private static final int HEAD_WORDS = 3;
     private static final int MOST_OBJECTS = MOST_WORDS / HEAD_WORDS;
 
-    /** Stands for "refers to nothing" where otherwise the place or the number of an object stands. */
+    /** Stands for "refers to nothing" where else the place or the number of an object stands. */
     private static final int NOTHING = -1;
 
     private final int[] registers = new int[REGISTERS];
@@ -151,9 +151,9 @@ public final class ForwardYard {
         }
         int before = space.objects();
         spare.makeEmpty();
-        crew.begin(space, spare, workers, turns);
-        crew.bringRoots(registers);
-        crew.bringAllReached();
+        crew.begin(workers, turns);
+        crew.bringRoots(space, spare, registers);
+        crew.bringAllReached(space, spare);
         crew.followWeak(weakRegisters);
         Space left = space;
         space = spare;
@@ -217,7 +217,7 @@ public final class ForwardYard {
 
         private static final int VALUE = 1;
 
-        /** The shape holds age and field count in one word, to keep to three words and the fields. */
+        /** Age and field count share this word, to keep to three words and the fields. */
         private static final int SHAPE = 2;
         private static final int COUNT_BITS = 3;
         private static final int COUNT_MASK = (1 << COUNT_BITS) - 1;
@@ -257,7 +257,7 @@ public final class ForwardYard {
             return at;
         }
 
-        /** Copies an object of another space, one collection older; its fields keep the old places. */
+        /** Copies an object of another space, one older; its fields still hold old places. */
         int takeOver(Space other, int old) {
             int at = words;
             int size = HEAD_WORDS + other.fieldCountOf(old);
@@ -327,7 +327,7 @@ public final class ForwardYard {
         }
     }
 
-    /** One worker's pile of objects that have been copied, but whose fields still hold old places. */
+    /** One worker's pile of objects that are copied, but whose fields still hold old places. */
     private static final class Worker {
 
         private final int[] pile = new int[MOST_OBJECTS];
@@ -356,8 +356,6 @@ public final class ForwardYard {
         /** By old place: where the object has been copied to, or NOTHING. */
         private final int[] forward = new int[MOST_WORDS];
 
-        private Space from;
-        private Space to;
         private int working = 1;
         private int turns;
         private int steps;
@@ -368,28 +366,26 @@ public final class ForwardYard {
             }
         }
 
-        void begin(Space oldSpace, Space newSpace, int workerCount, int turnOrder) {
-            from = oldSpace;
-            to = newSpace;
+        void begin(int workerCount, int turnOrder) {
             working = workerCount;
             turns = turnOrder;
             steps = 0;
             Arrays.fill(forward, NOTHING);
         }
 
-        void bringRoots(int[] roots) {
+        void bringRoots(Space from, Space to, int[] roots) {
             for (int i = 0; i < roots.length; i++) {
-                roots[i] = bring(workers[whoseTurn()], roots[i]);
+                roots[i] = bring(workers[whoseTurn()], from, to, roots[i]);
             }
         }
 
-        /** Each step does the fields of one copied object, so there are as many steps as objects. */
-        void bringAllReached() {
+        /** Each step does the fields of one copied object: as many steps as objects. */
+        void bringAllReached(Space from, Space to) {
             for (int done = 0; done < to.objects() && done < MOST_OBJECTS; done++) {
                 int turn = whoseTurn();
                 int at = takeFor(turn);
                 if (at != NOTHING) {
-                    bringFields(workers[turn], at);
+                    bringFields(workers[turn], from, to, at);
                 }
             }
         }
@@ -420,14 +416,14 @@ public final class ForwardYard {
             return at;
         }
 
-        private void bringFields(Worker worker, int at) {
+        private void bringFields(Worker worker, Space from, Space to, int at) {
             for (int f = 0; f < to.fieldCountOf(at); f++) {
-                to.refer(at, f, bring(worker, to.referent(at, f)));
+                to.refer(at, f, bring(worker, from, to, to.referent(at, f)));
             }
         }
 
         /** The new place of an object, which the worker copies if nobody has done so yet. */
-        private int bring(Worker worker, int old) {
+        private int bring(Worker worker, Space from, Space to, int old) {
             if (old == NOTHING) {
                 return NOTHING;
             }

@@ -2,7 +2,8 @@
 public final class CollectTest {
 
     private static final String PROMISE = "promise 15";
-    private static final int[] ORDERS = {Run.LOW, -1, 0, 1, 0x2D2D2D2D, 0x77777777, Run.HIGH};
+    private static final int[] ORDERS = {
+        Run.LOW, -2, -1, 0, 1, 2, 3, 0x1E1E1E1E, 0x2D2D2D2D, 0x77777777, Run.HIGH};
 
     public static void main(String[] args) {
         Sentences all = new Sentences();
@@ -350,6 +351,11 @@ public final class CollectTest {
         run.due(238, "figure", 0);
         run.due(27, "collect", 1, 0);
         run.due(49, "figure", 0);
+        run.does("make", 0, 0, 0);
+        for (int i = 0; i < 3; i++) {
+            run.due(0, "collect", 1, 0);
+            run.due(52, "figure", 0);
+        }
     }
 
     private static void figureObjects(Run run) {

@@ -22,6 +22,7 @@ public final class ObjectsTest {
         all.holds(two, "which refer to nothing", ObjectsTest::makeWhereOthersWere);
         all.holds(two, "and a value", ObjectsTest::makeValue);
         all.holds(two, "its age 0", ObjectsTest::makeAge);
+        all.holds(two, "its age 0", ObjectsTest::makeAgeWhereOldOnesWere);
         all.holds(two, "register r refers to it then", ObjectsTest::makeRegister);
         all.holds(two, "register r refers to it then", ObjectsTest::makeOverAnother);
         all.holds(two, "Its number.", ObjectsTest::makeNumber);
@@ -122,6 +123,22 @@ public final class ObjectsTest {
         run.does("make", 1, 1, 7);
         run.due(0, "about", 1, 2);
         run.due(5, "about", 0, 2);
+    }
+
+    private static void makeAgeWhereOldOnesWere(Run run) {
+        for (int round = 0; round < 3; round++) {
+            for (int r = 0; r < 3; r++) {
+                run.does("make", r, r, 7);
+                run.due(0, "about", r, 2);
+            }
+            for (int i = 0; i < 3; i++) {
+                run.due(0, "collect", 1, 0);
+            }
+            for (int r = 0; r < 3; r++) {
+                run.does("clear", r);
+            }
+            run.due(3, "collect", 1, 0);
+        }
     }
 
     private static void makeRegister(Run run) {

@@ -71,14 +71,17 @@ public final class TermsTest {
 
     private static void newToTheLastCall(Run run) {
         int made = 0;
-        while (run.length() < 511) {
+        int collections = 0;
+        while (run.length() < 508) {
             run.due(made, "make", 0, 0, -made);
             made++;
             if (made % 79 == 0) {
                 run.due(made == 79 ? 78 : 79, "collect", 4, made);
+                collections++;
             }
         }
-        run.due(made, "figure", 3);
+        int objects = made - 79 * collections + 1;
+        run.figures(3 * objects, objects, collections, made);
     }
 
     private static void letGoAndStay(Run run) {
@@ -213,6 +216,7 @@ public final class TermsTest {
                 filled.due(i, "make", i % 8, n, i);
             }
             filled.refused(Run.STATE, "make", 0, n, 0);
+            filled.refused(Run.STATE, "make", 0, 0, 0);
             filled.figures(most * (n + 3), most, 0, most);
         }
     }
