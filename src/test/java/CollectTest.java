@@ -21,6 +21,7 @@ public final class CollectTest {
         all.holds(PROMISE, goes, CollectTest::eachFieldHolds);
         all.holds(PROMISE, goes, CollectTest::aLongChain);
         all.holds(PROMISE, goes, CollectTest::aRing);
+        all.holds(PROMISE, goes, CollectTest::theMostThatCanStay);
         all.holds(PROMISE, goes, CollectTest::whatOnlyTheUnreachedReach);
         all.holds(PROMISE, "(weak ones don't count)", CollectTest::weakOnesHoldNothing);
         String weak = "weak registers that refer to one of these refer to nothing then";
@@ -119,6 +120,25 @@ public final class CollectTest {
         run.does("set", 0, 0, 0);
         run.does("clear", 0);
         run.due(1, "collect", 4, 1);
+    }
+
+    /** Eight of those that stay need no field that refers to them: 62 * 3 + 54 words. */
+    private static void theMostThatCanStay(Run run) {
+        run.does("make", 0, 0, 0);
+        for (int i = 0; i < 54; i++) {
+            run.does("make", 1, 1, i);
+            run.does("set", 1, 0, 0);
+            run.does("copy", 1, 0);
+        }
+        for (int r = 1; r < 8; r++) {
+            run.does("make", r, 0, r);
+        }
+        for (int workers = 1; workers <= 4; workers++) {
+            run.due(0, "collect", workers, 0x39);
+            run.figures(240, 62, workers, 62);
+            run.due(55, "reach", 0);
+        }
+        run.registers(54, 55, 56, 57, 58, 59, 60, 61);
     }
 
     /** To refer to one that stays holds nobody. */
